@@ -476,7 +476,7 @@ public final class CushionHall {
         }
     }
 
-    /** Looks at all pairs of LAWS (as of lets()) and CUSHIONS once, for LETS and THROWN OUT alike. */
+    /** Looks at all pairs of LAWS (as of lets()) and CUSHIONS, for LETS and THROWN OUT alike. */
     private void judgePairs(int laws, int slip) {
         int from = laws / 1000;
         int to = laws % 1000;
@@ -484,7 +484,7 @@ public final class CushionHall {
         speakers.forgetVerdicts();
         for (int c = 0; c <= MOST_CUSHION; c += CUSHION_STEP) {
             tryCushion(c);
-            for (int l = from; l <= to; l++) speakers.judge(l, c, slip);
+            speakers.judge(from, to, c, slip);
         }
     }
 
@@ -636,7 +636,7 @@ public final class CushionHall {
         }
     }
 
-    /** The NIGHTS that are not LEFT OUT, in rows, so that THE RULE and the SURFACES are asked once for all pairs. */
+    /** The NIGHTS that aren't LEFT OUT, in rows, so that THE RULE and the SURFACES are asked once for all pairs. */
     private static final class Speakers {
         private int size;
         private final Night[] nights = new Night[MOST_NIGHTS];
@@ -649,7 +649,7 @@ public final class CushionHall {
         private int let;
         private int leastLet;
         private int mostLet;
-        /** The furthest that a pair comes before a speaker throws it out. */
+        /** How many speakers, from the first on, some pair satisfies. */
         private int furthest;
 
         void hear(Night night, int number, long eats, int late) {
@@ -692,14 +692,31 @@ public final class CushionHall {
             furthest = 0;
         }
 
-        void judge(int law, int cushion, int slip) {
+        /** DUE never falls as LAW grows: the LAWS that a speaker lets stand in one run, and so do those that all let. */
+        void judge(int from, int to, int cushion, int slip) {
+            long least = from;
+            long most = to;
             int k = 0;
-            while (k < size && offBy(k, law) <= slip) k++;
-            furthest = Math.max(furthest, k);
-            if (k < size) return;
-            let++;
+            while (k < size && least <= most) {
+                least = Math.max(least, leastLaw(k, heardInTime[k] - slip));
+                most = Math.min(most, mostLaw(k, heardInTime[k] + slip));
+                if (least <= most) furthest = Math.max(furthest, k + 1);
+                k++;
+            }
+            if (least > most) return;
+            let += (int) (most - least + 1);
             if (leastLet == NONE) leastLet = cushion;
             mostLet = cushion;
+        }
+
+        /** The least LAW by which it lasts a time at least. */
+        private long leastLaw(int k, long time) {
+            return time <= 0 ? 0 : quotient(time * allEats[k] + roomOf[k] - 1, roomOf[k]);
+        }
+
+        /** The greatest LAW by which it lasts a time at most. */
+        private long mostLaw(int k, long time) {
+            return time < 0 ? -1 : quotient((time + 1) * allEats[k] - 1, roomOf[k]);
         }
 
         /** STRAIGHT's sum; -1 where no two have unlike MANY. */

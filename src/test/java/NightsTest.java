@@ -36,6 +36,10 @@ public final class NightsTest {
         for (int bad : new int[] {-1, 1, MIN, MAX}) DUE.is("night " + bad, x.told(bad, 0), CushionHall.NO);
         x.night(0, 10, 0, 0, 0);
         DUE.is("heard nothing: left out", x.told(1, 10), 1);
+        for (int i = 2; i < 6; i++) x.hall(1, 2, 2);
+        x.night(0, 50, 0, 0, 0);
+        DUE.is("the last HALL", x.told(2, 1), 5);
+        DUE.is("the low PITCH", x.told(2, 2), 0);
     }
 
     /** 7 of each KIND, tired 3: the RULE says 6 late. */

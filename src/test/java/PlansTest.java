@@ -1,7 +1,7 @@
 /** Promises 18 to 23: plans, aims, wrong numbers, echoes, clear halls. */
 public final class PlansTest {
     private static final int MIN = Integer.MIN_VALUE, MAX = Integer.MAX_VALUE;
-    private static final int[] BAD_WHERES = {-1, 3, 9, 10, 20, -10, MIN, MAX};
+    private static final int[] BAD_WHERES = {-1, 3, 9, 13, 20, -10, MIN, MAX};
     private static final Due DUE = new Due();
 
     /** A bare hall: 490000 by what is eaten. */
@@ -77,8 +77,10 @@ public final class PlansTest {
         DUE.is("six surfaces", x.aim(0, 0, 0, 9999, 0), -4);
         DUE.is("six surfaces, and a bad what", x.aim(0, 0, 0, 9999, 2), CushionHall.NO);
         DUE.is("another hall", x.aim(10, 0, 4900, 0, 0), 0);
+        x.surface(1, 0, 90);
+        DUE.is("another hall, the high pitch", x.aim(12, 0, 490, 0, 0), 450);
         x.stuff(0, 0);
-        DUE.is("seven stuffs", x.aim(10, 0, 4900, 0, 0), -4);
+        DUE.is("seven stuffs", x.aim(10, 0, 490, 0, 0), -4);
     }
 
     private static void wrongs(String call, CushionHall x, int people, int time, int what, long number, long out) {
@@ -99,7 +101,11 @@ public final class PlansTest {
         wrongs("LAW, of like ones the least", x, 0, 350, 2, 3, 50);
         wrongs("LAW, one more", x, 0, 351, 2, 4, 49);
         wrongs("LAW, the least", x, 0, 0, 2, 1, 100);
-        wrongs("LAW, the greatest", x, 0, 99999, 2, 999, 99);
+        wrongs("LAW, the greatest", x, 0, 99900, 2, 999, 0);
+        wrongs("LAW, beyond the greatest", x, 0, 99999, 2, 999, 99);
+        // with two people 1000 is eaten: 5 for each hundred of SIZE, 10 for each of LAW
+        wrongs("SIZE, with people", x, 2, 52, 0, 10, 2);
+        wrongs("LAW, with people", x, 2, 35, 2, 3, 5);
         wrongs("LAW, some of like time", x, 999, 0, 2, 1, 0);
         // 500000 by 100 and 450 for each: 5000, 909, 500, 344, ..
         wrongs("people, its own does not matter", x, 7, 909, 1, 1, 0);
@@ -107,8 +113,14 @@ public final class PlansTest {
         wrongs("people, the nearer one", x, 0, 705, 1, 1, 204);
         wrongs("people, the other", x, 0, 704, 1, 2, 204);
         wrongs("people, the least of 1", x, 0, 0, 1, 556, 1);
+        x.set(2, 1);
+        wrongs("people who eat 1", x, 9, 2500, 1, 100, 0);
         x.set(2, 0);
         wrongs("people who eat nothing", x, 9, 77, 1, 0, 4923);
+        x.stuff(10203, 0);
+        x.hall(100, 2, 2);
+        x.surface(1, 0, 100);
+        DUE.is("by the high pitch of another hall", x.wrong(12, 0, 500, 0, 0), 40);
         for (int bad : BAD_WHERES) DUE.is("where " + bad, x.wrong(bad, 0, 0, 0, 0), CushionHall.NO);
         for (int bad : new int[] {-1, 1000, MIN, MAX}) DUE.is("people " + bad, x.wrong(0, bad, 0, 1, 0), CushionHall.NO);
         for (int bad : new int[] {-1, 100000, MIN, MAX}) DUE.is("time " + bad, x.wrong(0, 0, bad, 0, 0), CushionHall.NO);
@@ -146,9 +158,12 @@ public final class PlansTest {
         hears(x, 3, 1, new int[] {1, 5, 1, 3, 1, 5});
         hears(x, 4, 2, new int[] {0, 4, 2, 4, 0, 4});
         hears(x, 4, 3, new int[] {0, 4, 2, 4, 0, 4});
+        x.hall(10, 3, 3);
+        int[] corners = {8, 2, 0, 6};
+        for (int way = 0; way < 4; way++) DUE.is("from the midst by way " + way, x.echo(1, 4, way, 1), corners[way]);
         DUE.is("most steps", x.echo(0, 0, 0, 400), 4);
         DUE.is("most steps", x.hears(0, 0, 3400, 4), 200);
-        for (int bad : new int[] {-1, 1, MIN, MAX}) {
+        for (int bad : new int[] {-1, 2, MIN, MAX}) {
             DUE.is("echo in hall " + bad, x.echo(bad, 0, 0, 1), -2);
             DUE.is("hears in hall " + bad, x.hears(bad, 0, 1, 0), -2);
         }

@@ -165,6 +165,11 @@ public final class SaysTest {
         DUE.is("up to 20", x.narrows(20040, 0, 2, 20), 20);
         DUE.is("up to 19", x.narrows(20040, 0, 0, 19), 0);
         DUE.is("up to 0", x.narrows(20040, 0, 0, 0), 0);
+        x.stuff(505050, 0);
+        x.hall(100, 2, 2);
+        x.surface(1, 0, 9999);
+        // 490000 by 500050 and more: 0 by any CUSHION
+        DUE.is("in another HALL", x.narrows(20040, 0, 12, 200), 0);
         x.set(0, 1);
         // 10000 by 100 + 990 times MANY: 0 from 11 on
         DUE.is("by the LAW as it is", x.narrows(20040, 0, 0, 200), 20);
@@ -172,7 +177,7 @@ public final class SaysTest {
         DUE.is("one CUSHION only", x.narrows(20040, 0, 0, 200), 0);
         x.night(0, 0, 0, 9999, 0);
         DUE.is("LETS has none", x.narrows(20040, 0, 0, 200), -3);
-        for (int bad : new int[] {-1, 3, 9, 10, -10, MIN, MAX}) DUE.is("where " + bad, x.narrows(20040, 0, bad, 20), -2);
+        for (int bad : new int[] {-1, 3, 9, 13, 20, -10, MIN, MAX}) DUE.is("where " + bad, x.narrows(20040, 0, bad, 20), -2);
         for (int bad : new int[] {-1, 201, MIN, MAX}) DUE.is("most " + bad, x.narrows(20040, 0, 0, bad), -2);
         DUE.is("nights stay", x.count(2), 3);
     }

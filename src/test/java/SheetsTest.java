@@ -52,6 +52,17 @@ public final class SheetsTest {
         return x.nights(0, sort, 0, 1) == 1 ? x.told(0, 3) : -1;
     }
 
+    private static void eachCell() {
+        CushionHall x = oneHall();
+        for (int sort = 0; sort < 3; sort++) {
+            x.sheet(sort, sort, 5);
+            for (int i = 0; i < 5; i++) x.cell(sort, i, i + 1);
+            DUE.is("nights by sort " + sort, x.nights(sort, sort, 0, 1), 1);
+            long[] want = {1, 0, 2, 3, 4, 5};
+            for (int k = 0; k < 6; k++) DUE.is("told(" + sort + ", " + k + ")", x.told(sort, k), want[k]);
+        }
+    }
+
     private static void lowestBits() {
         DUE.is("byte 127", through(0, 127), 127);
         DUE.is("byte 128 is below 0", through(0, 128), -1);
@@ -144,6 +155,7 @@ public final class SheetsTest {
     public static void main(String[] args) {
         sheet();
         cell();
+        eachCell();
         lowestBits();
         copy();
         copyOverlapping();

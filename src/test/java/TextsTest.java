@@ -93,6 +93,16 @@ public final class TextsTest {
         fault("late manyx;", 5);
         fault("late man;", 5);
         fault("lateleave", 0);
+        fault("latez 1;", 0);
+        fault("alate 1;", 0);
+        fault("mate 1;", 0);
+        fault("late fired;", 5);
+        fault("late `;", 5);
+        fault("late {;", 5);
+        fault("late /;", 5);
+        fault("late :;", 5);
+        fault("late 1,;", 6);
+        fault("late 1>0;", 6);
         fault("late 1 ? 2;", 7);
         fault("late 1\t;", 6);
         fault("late 1\r;", 6);
