@@ -77,6 +77,21 @@ public final class SaysTest {
         lets("none", x, 0, 0, -1, -1);
     }
 
+    /** 101 is eaten in a hall of 1: by LAWS 1, 2, .. 5 a NIGHT lasts 0, 1, .. 4. */
+    private static void letsJustSo() {
+        for (int heard = 0; heard < 5; heard++) {
+            CushionHall x = new CushionHall();
+            x.stuff(10101, 0);
+            x.hall(1, 2, 2);
+            x.surface(0, 0, 1);
+            x.force(Due.read(x, "late 0; leave 0;"));
+            x.night(0, 0, 0, heard, 0);
+            DUE.is("heard " + heard, x.lets(1005, 0, 0), 100);
+            DUE.is("heard " + heard + ", by its LAW", x.lets(1001 * (heard + 1), 0, 0), 100);
+            DUE.is("heard " + heard + ", slip 1", x.lets(1005, 1, 0), heard % 4 == 0 ? 200 : 300);
+        }
+    }
+
     private static void letsRefuses() {
         CushionHall x = bare();
         for (int bad : BAD_LAWS) {
@@ -142,6 +157,11 @@ public final class SaysTest {
         y.night(1, 0, 3, 900, 0);
         // the line from the first to the third, at 3: -5; to the fourth, at 1: 306, at 3: 900; and so on
         DUE.is("with one of like MANY", y.better(0, 0), 902);
+        CushionHall w = bare();
+        w.night(0, 0, 0, 10, 0);
+        w.night(0, 0, 2, 11, 0);
+        w.night(0, 0, 1, 10, 0);
+        DUE.is("exactly, by the first two alone", w.better(0, 0), 0);
         CushionHall z = bare();
         z.night(0, 0, 0, 4900, 0);
         z.night(0, 0, 5, 4900, 0);
@@ -186,6 +206,7 @@ public final class SaysTest {
         fit();
         fitRefuses();
         lets();
+        letsJustSo();
         letsRefuses();
         thrownOut();
         better();
