@@ -139,7 +139,7 @@ public final class CushionHall {
 
     public long fit(int from, int to, int what) {
         if (!areLaws(from, to) || !within(what, 0, 2)) return NO;
-        gatherSpeakers(null);
+        gatherSpeakers(NONE);
         long best = -1;
         int law = from;
         int cushion = 0;
@@ -172,9 +172,8 @@ public final class CushionHall {
     }
 
     public long better(int hall, int what) {
-        Hall h = hallAt(hall);
-        if (h == null || !within(what, 0, 2)) return NO;
-        gatherSpeakers(h);
+        if (hallAt(hall) == null || !within(what, 0, 2)) return NO;
+        gatherSpeakers(hall);
         long straight = speakers.straightSum();
         if (straight < 0) return STATE;
         tryCushion(numbers[CUSHION]);
@@ -292,7 +291,7 @@ public final class CushionHall {
             case 4: return tape.size;
             case 5: return rule;
             case 6:
-                gatherSpeakers(null);
+                gatherSpeakers(NONE);
                 return nightsNow - speakers.size;
             default: return BAD;
         }
@@ -458,12 +457,12 @@ public final class CushionHall {
 
     // ---- inside: what nights say
 
-    /** Of one HALL, or of all where that is null. */
-    private void gatherSpeakers(Hall hall) {
+    /** Of one HALL, or of all where that is NONE. */
+    private void gatherSpeakers(int hall) {
         speakers.size = 0;
         for (int i = 0; i < nightsNow; i++) {
             Night n = nightAt(i);
-            if (n != null && (hall == null || n.hall == hall) && !isLeftOut(n)) {
+            if (n != null && (hall == NONE || n.hallNumber == hall) && !isLeftOut(n)) {
                 speakers.hear(n, i, eatenIn(n.hall, n.pitch), lateOf(n));
             }
         }
@@ -480,7 +479,7 @@ public final class CushionHall {
     private void judgePairs(int laws, int slip) {
         int from = laws / 1000;
         int to = laws % 1000;
-        gatherSpeakers(null);
+        gatherSpeakers(NONE);
         speakers.forgetVerdicts();
         for (int c = 0; c <= MOST_CUSHION; c += CUSHION_STEP) {
             tryCushion(c);
@@ -857,7 +856,7 @@ public final class CushionHall {
                     high++;
                 } else if (code <= MINUS) {
                     if (high < 1) return 0;
-                    pile[high - 1] = code == NOT ? truth(pile[high - 1] == 0) : -pile[high - 1];
+                    pile[high - 1] = code == NOT ? join(SAME, pile[high - 1], 0) : -pile[high - 1];
                 } else {
                     if (high < 2) return 0;
                     pile[high - 2] = join(code, pile[high - 2], pile[high - 1]);
@@ -872,15 +871,11 @@ public final class CushionHall {
                 case ADD: return a + b;
                 case TAKE: return a - b;
                 case TIMES: return a * b;
-                case LESS: return truth(a < b);
-                case SAME: return truth(a == b);
-                case AND: return truth(a != 0 && b != 0);
-                default: return truth(a != 0 || b != 0);
+                case LESS: return a < b ? 1 : 0;
+                case SAME: return a == b ? 1 : 0;
+                case AND: return a != 0 && b != 0 ? 1 : 0;
+                default: return a != 0 || b != 0 ? 1 : 0;
             }
-        }
-
-        private static int truth(boolean b) {
-            return b ? 1 : 0;
         }
     }
 
