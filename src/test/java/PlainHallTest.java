@@ -22,6 +22,8 @@ public final class PlainHallTest {
     private final Map<String, Method> plain = new HashMap<>();
     private final Due due = new Due();
     private Random lot = new Random(0);
+    /** Whether a run begins with as much of everything as there may be, and asks for all of it. */
+    private boolean full = false;
 
     private PlainHallTest() {
         for (Method m : CushionHall.class.getDeclaredMethods()) tried.put(m.getName(), m);
@@ -56,9 +58,9 @@ public final class PlainHallTest {
             case "coin" -> edge(0, lot.nextBoolean() ? 99 : 3);
             case "size" -> edge(1, lot.nextBoolean() ? 99999 : 900);
             case "side" -> edge(2, lot.nextBoolean() ? 20 : 4);
-            case "hall" -> upTo(2);
-            case "surface" -> upTo(5);
-            case "stuff" -> upTo(5);
+            case "hall" -> full ? edge(0, 5) : upTo(2);
+            case "surface" -> full ? edge(0, 5) : upTo(5);
+            case "stuff" -> full ? edge(0, 7) : upTo(5);
             case "feet" -> edge(0, lot.nextBoolean() ? 9999 : 100);
             case "what2" -> edge(0, 1);
             case "what3" -> edge(0, 2);
@@ -68,11 +70,11 @@ public final class PlainHallTest {
             case "number" -> edge(0, 999);
             case "pitch" -> edge(0, 2);
             case "kind" -> edge(0, 5);
-            case "where" -> upTo(2) * 10 + edge(0, 2);
+            case "where" -> upTo(full ? 5 : 2) * 10 + edge(0, 2);
             case "many", "people" -> edge(0, lot.nextBoolean() ? 999 : 60);
             case "time" -> edge(0, pick(99999, 1000, 300));
             case "tired" -> edge(0, 9);
-            case "night" -> upTo(20);
+            case "night" -> full ? edge(0, 39) : upTo(20);
             case "n8" -> edge(0, 8);
             case "text" -> upTo(5);
             case "laws" -> laws();
@@ -157,6 +159,18 @@ public final class PlainHallTest {
         if (lot.nextInt(3) == 0) feedText(run, x, y);
     }
 
+    private void startFull(int run, CushionHall x, PlainHall y) throws Exception {
+        int stuffs = pick(5, 6, 8);
+        for (int i = 0; i < stuffs; i++) both(run, x, y, "stuff", upTo(99) * 10101, upTo(99));
+        for (int i = 0; i < 6; i++) both(run, x, y, "hall", argument("size"), 2 + upTo(18), 2 + upTo(18));
+        for (int i = 0; i < 36; i++) {
+            if (i % 6 < 5 || lot.nextBoolean()) both(run, x, y, "surface", i / 6, upTo(stuffs - 1), upTo(9999));
+        }
+        for (int i = 0; i < 40; i++) {
+            both(run, x, y, "night", upTo(5), upTo(5) * 10 + upTo(2), argument("many"), argument("time"), upTo(9));
+        }
+    }
+
     /** Nights that were heard nearly as some LAW and CUSHION would have it, so that few pairs are let by small slips. */
     private void nearlyTrue(int run, CushionHall x, PlainHall y) throws Exception {
         PlainHall truth = new PlainHall();
@@ -190,9 +204,11 @@ public final class PlainHallTest {
             test.lot = new Random(run);
             CushionHall x = new CushionHall();
             PlainHall y = new PlainHall();
-            test.start(run, x, y);
-            if (run % 3 == 0) test.nearlyTrue(run, x, y);
-            for (int i = 0; i < 300; i++) test.oneCall(run, x, y);
+            test.full = run % 5 == 1;
+            if (test.full) test.startFull(run, x, y);
+            else test.start(run, x, y);
+            if (run % 3 == 0 && !test.full) test.nearlyTrue(run, x, y);
+            for (int i = 0; i < (test.full ? 250 : 300); i++) test.oneCall(run, x, y);
         }
         test.due.end();
     }
