@@ -241,6 +241,23 @@ public final class TextsTest {
         fault("late " + "0".repeat(99) + ";", 5);
     }
 
+    /** What a byte by itself does behind "late 1" and in front of all. */
+    private static void eachByte() {
+        String taken = "abcdefghijklmnopqrstuvwxyz0123456789();+-*<= \n";
+        for (char b = 0; b < 256; b++) {
+            DUE.by("also of a byte that begins none");
+            if (taken.indexOf(b) < 0) {
+                fault("late 1" + b + "1;leave 0;", 6);
+                fault("" + b, 0);
+            }
+            DUE.by("blanks (32, 10) may stand between");
+            if (b == 32 || b == 10) {
+                fine("late" + b + "1" + b + ";" + b + b + "leave" + b + "0;" + b);
+                fault("" + b, 1);
+            }
+        }
+    }
+
     private static void spelled() {
         DUE.by("NUMBERS (as many digits as stand there, 4 at most)");
         fine("late 9999 ; leave 0000;");
@@ -404,6 +421,7 @@ public final class TextsTest {
         tooEarly();
         faults();
         brokenTokens();
+        eachByte();
         spelled();
         depths();
         values();
