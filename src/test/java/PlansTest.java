@@ -215,6 +215,17 @@ public final class PlansTest {
         wrongs("people who eat 1, like ones", x, 9, 4926, 1, 1, 24);
         x.set(2, 0);
         wrongs("people who eat nothing", x, 9, 77, 1, 0, 4923);
+        CushionHall z = new CushionHall();
+        z.stuff(505050, 0);
+        z.hall(1, 2, 2);
+        z.surface(0, 0, 1);
+        z.set(0, 1);
+        for (int person : new int[] {0, 1, 149, 150, 151, 200, 999}) {
+            // 100 by 150 and more: 0 by any number
+            z.set(2, person);
+            wrongs("people who eat " + person + ", all of 0", z, 3, 0, 1, 0, 0);
+            wrongs("people who eat " + person + ", all of 0", z, 3, 99999, 1, 0, 99999);
+        }
         CushionHall y = new CushionHall();
         y.hall(10000, 2, 2);
         y.set(2, 1);

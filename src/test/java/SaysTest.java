@@ -242,6 +242,8 @@ public final class SaysTest {
         straight(0, 0, 10, 2, 11, 1, 10);
         straight(0, 7, 40, 3, 20, 5, 30);
         straight(0, 999, 99999, 0, 0);
+        straight(0, 0, 10, 1, 20);
+        straight(0, 1, 20, 0, 10);
         straight(0, 5, 7, 6, 7, 9, 7);
         // the lesser number first: by the second one's heard it would be 2
         straight(1, 1, 3, 2, 12, 3, 24);

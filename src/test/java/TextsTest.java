@@ -343,6 +343,24 @@ public final class TextsTest {
         return Math.abs(v) <= 9999 ? digits : v / 10000 + "*10*1000+" + "(" + v % 10000 + ")";
     }
 
+    private static void truths() {
+        DUE.by("of or, and, not, <, = 1 or 0 (what is not 0 is true)");
+        int[] each = {0, 1, -1, 7, Integer.MIN_VALUE};
+        for (int a : each) {
+            value("not " + one(a), a == 0 ? 1 : 0);
+            for (int b : each) {
+                value(one(a) + " and " + one(b), a != 0 && b != 0 ? 1 : 0);
+                value(one(a) + " or " + one(b), a != 0 || b != 0 ? 1 : 0);
+                value(one(a) + " < " + one(b), a < b ? 1 : 0);
+                value(one(a) + " = " + one(b), a == b ? 1 : 0);
+            }
+        }
+    }
+
+    private static String one(int v) {
+        return "(" + spell(v) + ")";
+    }
+
     private static void values() {
         DUE.by("NAMES are kind many pitch hall time tired; late, leave, or, and, not are KEYS.");
         fault("late late;leave 0;", 5);
@@ -424,6 +442,7 @@ public final class TextsTest {
         eachByte();
         spelled();
         depths();
+        truths();
         values();
         DUE.end();
     }
