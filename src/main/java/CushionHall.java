@@ -16,6 +16,7 @@ public final class CushionHall {
     private static final int MOST_SEATS = 400, MOST_STEPS = 400, MOST_MANY_TO_COME = 200, MANY_STEP = 20;
     private static final int WALLS_EAT = 100, WINDOW_EATS = 100, CLEAR_TIME = 180;
     private static final int NIGHT_PARTS = 5, MOST_AT_ONCE = 8;
+    private static final long ANY_SUM = 9223372036854775807L;
 
     /** What set() calls the numbers. */
     private static final int LAW = 0, CUSHION = 1, PERSON = 2, COAT = 3;
@@ -147,7 +148,7 @@ public final class CushionHall {
             tryCushion(c);
             for (int l = from; l <= to; l++) {
                 // Of like sums the least LAW wins, so a later CUSHION needs a lesser LAW to be no more off.
-                long most = best < 0 ? Long.MAX_VALUE : l < law ? best : best - 1;
+                long most = best < 0 ? ANY_SUM : l < law ? best : best - 1;
                 long sum = speakers.sumUpTo(l, most);
                 if (sum <= most) {
                     best = sum;
@@ -177,7 +178,7 @@ public final class CushionHall {
         long straight = speakers.straightSum();
         if (straight < 0) return STATE;
         tryCushion(numbers[CUSHION]);
-        long bent = speakers.sumUpTo(numbers[LAW], Long.MAX_VALUE);
+        long bent = speakers.sumUpTo(numbers[LAW], ANY_SUM);
         return what == 0 ? straight : what == 1 ? bent : Long.compare(straight, bent);
     }
 
@@ -215,7 +216,7 @@ public final class CushionHall {
         if (h == null || !within(people, 0, MOST_NUMBER) || !within(time, 0, MOST_TIME)) return NO;
         if (!within(slip, 0, MOST_SLIP) || !within(what, 0, 1)) return NO;
         if (h.surfaces > MOST_AIMED || stuffs > MOST_AIM_STUFFS) return FULL;
-        Aim aim = new Aim(h, where % 10, numbers[LAW], time, slip);
+        Aim aim = new Aim(h, where % 10, numbers[LAW], time, slip, stuffRow, stuffs);
         tryStuffs(aim, 0, WALLS_EAT + (long) people * numbers[PERSON], 0, 0);
         return what == 0 ? aim.coin : aim.digits;
     }
@@ -490,13 +491,13 @@ public final class CushionHall {
     // ---- inside: plans
 
     /** Goes through the STUFFS of the SURFACES from one on, least first, so that of like ways the first stays. */
-    private void tryStuffs(Aim aim, int surface, long eats, long coin, long digits) {
+    private static void tryStuffs(Aim aim, int surface, long eats, long coin, long digits) {
         if (surface >= aim.hall.surfaces || surface >= MOST_AIMED) {
             aim.offer(eats, coin, digits);
             return;
         }
-        for (int i = 0; i < stuffs && i < MOST_AIM_STUFFS; i++) {
-            Stuff s = stuffAt(i);
+        for (int i = 0; i < aim.stuffs && i < aim.stuffRow.length; i++) {
+            Stuff s = aim.stuffRow[i];
             if (s != null) {
                 long feet = aim.hall.feetOf[surface];
                 tryStuffs(aim, surface + 1, eats + feet * s.eatsBy(aim.pitch), coin + feet * s.coin, digits * 10 + i);
@@ -696,7 +697,7 @@ public final class CushionHall {
             long least = from;
             long most = to;
             int k = 0;
-            while (k < size && least <= most) {
+            while (k < size && k < MOST_NIGHTS && least <= most) {
                 least = Math.max(least, leastLaw(k, heardInTime[k] - slip));
                 most = Math.min(most, mostLaw(k, heardInTime[k] + slip));
                 if (least <= most) furthest = Math.max(furthest, k + 1);
@@ -754,15 +755,19 @@ public final class CushionHall {
         private final long top;
         private final int time;
         private final int slip;
+        private final Stuff[] stuffRow;
+        private final int stuffs;
         private long coin = NONE;
         private long digits = NONE;
 
-        Aim(Hall hall, int pitch, int law, int time, int slip) {
+        Aim(Hall hall, int pitch, int law, int time, int slip, Stuff[] stuffRow, int stuffs) {
             this.hall = hall;
             this.pitch = pitch;
             this.top = hall.room() * law;
             this.time = time;
             this.slip = slip;
+            this.stuffRow = stuffRow;
+            this.stuffs = stuffs;
         }
 
         void offer(long eats, long wayCoin, long wayDigits) {

@@ -27,7 +27,8 @@ public final class LanguageTest {
         "\\bthrow\\b", "\\bthrows\\b", "\\btry\\b", "\\bcatch\\b", "\\bfinally\\b", "\\bsynchronized\\b",
         "\\bassert\\b", "\\bvolatile\\b", "\\bnative\\b", "\\bpackage\\b", "\\bprotected\\b", "->", "::", "@",
         "Exact\\b", "\\bObject\\b", "\\bThread\\b", "\\bRandom\\b", "\\bSystem\\.(?!arraycopy\\()",
-        "\\bArrays\\.(?!copyOf\\(|copyOfRange\\(|fill\\()", "\\bimport (?!java\\.util\\.(Arrays|ArrayList|List);)",
+        "\\b(Integer|Long|Math)\\.(?!(abs|max|min|compare|bitCount|floorDiv|floorMod)\\()",
+        "\\bString\\.", "\\bArrays\\.(?!copyOf\\(|copyOfRange\\(|fill\\()", "\\bimport (?!java\\.util\\.(Arrays|ArrayList|List);)",
         "\\bstatic \\{", "\\[\\]\\[\\]\\[\\]", "\\bhashCode\\b", "\\btoString\\b", "[^\\x00-\\x7f]"};
 
     private static void face() {
@@ -86,7 +87,17 @@ public final class LanguageTest {
         }
     }
 
-    private static void methodLengths(String source) {
+    /** Of methods that aren't static, these may call themselves: they and others call one another. */
+    private static final Set<String> CALL_ONE_ANOTHER = Set.of("readNot", "readOne");
+
+    private static void recursion(String head, String body) {
+        Matcher name = Pattern.compile("(\\w+)\\(").matcher(head);
+        if (!name.find() || !Pattern.compile("(?<![.\\w])" + name.group(1) + "\\(").matcher(body).find()) return;
+        boolean isPrivateStatic = head.trim().startsWith("private static ");
+        DUE.holds("calls itself as rule 8 lets it: " + head.trim(), isPrivateStatic || CALL_ONE_ANOTHER.contains(name.group(1)));
+    }
+
+    private static void methods(String source) {
         String[] lines = source.split("\n");
         int start = -1;
         String indent = "";
@@ -97,6 +108,7 @@ public final class LanguageTest {
                 indent = head.group(1);
             } else if (start >= 0 && lines[i].equals(indent + "}")) {
                 DUE.holds("at most sixty lines: " + lines[start].trim(), i - start < 60);
+                recursion(lines[start], String.join("\n", Arrays.copyOfRange(lines, start + 1, i)));
                 start = -1;
             }
         }
@@ -106,7 +118,7 @@ public final class LanguageTest {
         String source = Files.readString(Path.of("src/main/java/CushionHall.java"), StandardCharsets.UTF_8);
         face();
         words(withoutComments(source));
-        methodLengths(withoutComments(source));
+        methods(withoutComments(source));
         DUE.end();
     }
 }
